@@ -112,6 +112,9 @@ public final class ChangesTest {
         Due.is("write() after dropping", y.dropLine(0), 0);
         Due.write(y, "x");
         Due.lines("in the place of a dropped one", y, "x");
+        Due.is("dropPhrase of the greatest", y.dropPhrase(0), 0);
+        Due.write(y, "|w.");
+        Due.phrases("in the place of a dropped one", y, "w.");
     }
 
     private static void promise3WriteFull() {

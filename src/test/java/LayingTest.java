@@ -62,6 +62,15 @@ public final class LayingTest {
         for (String text : new String[] {"xx;|w", "x;|.", "Xx;|.s.", "xxx;|w.w"}) {
             fit(first, text, NONE, 0, 0, NONE, NONE);
         }
+        // Each number asked first, and after another line.
+        int[] want = {3, 3, 1, 1, 0};
+        int[] wantOther = {1, 3, 1, 0, 0};
+        for (int what = 0; what < want.length; what++) {
+            BurdenTunes x = Due.with("x;X;|sw");
+            Due.is("fit(0, 0, " + what + ") at first", x.fit(0, 0, what), want[what]);
+            Due.is("fit(1, 0, " + what + ") after it", x.fit(1, 0, what), wantOther[what]);
+            Due.is("fit(0, 0, " + what + ") again", x.fit(0, 0, what), want[what]);
+        }
     }
 
     private static void promise18FitWrong() {

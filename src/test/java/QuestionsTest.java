@@ -8,6 +8,7 @@ public final class QuestionsTest {
         promise12Line();
         promise12CheapestPhrase();
         promise13Phrase();
+        promises12And13AfterLongerOnes();
         promise14IsStressed();
         promise15KindOf();
         promise16Count();
@@ -69,6 +70,11 @@ public final class QuestionsTest {
         y.set(BurdenTunes.HURT, 0);
         y.beat(0, 0, 2);
         Due.is("line(0, 4) where nothing hurts", y.line(0, 4), 0);
+        BurdenTunes z = Due.with("xX", "|sw;|ws");
+        z.dropPhrase(1);
+        Due.is("line(0, 4) after the cheapest is dropped", z.line(0, 4), 0);
+        z.dropPhrase(0);
+        Due.is("line(0, 4) after all are dropped", z.line(0, 4), NONE);
     }
 
     private static void promise13Phrase() {
@@ -102,6 +108,21 @@ public final class QuestionsTest {
             y.play(0);
         }
         Due.is("phrase(0, 4) when full", y.phrase(0, 4), 8);
+    }
+
+    private static void promises12And13AfterLongerOnes() {
+        BurdenTunes x = Due.with("XXXX", "|ssww..w");
+        x.dropLine(0);
+        x.dropPhrase(0);
+        Due.write(x, "x;|.");
+        int[] line = {1, 0, 0, 0, NONE};
+        for (int what = 0; what < line.length; what++) {
+            Due.is("line(0, " + what + ") where a longer one was", x.line(0, what), line[what]);
+        }
+        int[] phrase = {1, 0, 0, 1, 0, 0};
+        for (int what = 0; what < phrase.length; what++) {
+            Due.is("phrase(0, " + what + ") where a longer one was", x.phrase(0, what), phrase[what]);
+        }
     }
 
     private static void promise14IsStressed() {
