@@ -84,23 +84,33 @@ public final class AskedTest {
     /** The pad is not part of the book: to fill, to empty and to look at it is no change. */
     private static void texts(int state) {
         asked(state, "fault(", x -> x.fault());
-        BurdenTunes x = States.made(state);
-        BurdenTunes other = States.made(state);
-        other.wipe();
-        String empty = States.told(other);
-        Due.is("wipe()", x.wipe(), States.made(state).count(9));
-        Due.is("put(;|s)", x.put(Due.number(";|s")), 3);
-        Due.is("fault()", x.fault(), 0);
-        Due.is("wipe()", x.wipe(), 3);
-        Due.holds(States.NAMES[state] + ": put and wipe leave the book and the history", States.told(x).equals(empty));
-        BurdenTunes y = States.made(state);
-        BurdenTunes z = States.made(state);
-        y.wipe();
-        y.put('~');
-        Due.is("undo() after put and wipe", y.undo(), z.undo());
-        z.wipe();
-        z.put('~');
-        Due.holds(States.NAMES[state] + ": put and wipe are no changes", States.told(y).equals(States.told(z)));
+        for (int look = 0; look <= 4; look++) {
+            BurdenTunes x = States.made(state);
+            String name = States.NAMES[state] + ": wipe and put leave all but the pad, look " + look;
+            Due.is(name, x.wipe(), States.made(state).count(9));
+            Due.is(name, x.put(Due.number(";|s")), 3);
+            Due.is(name, x.fault(), 0);
+            Due.is(name, x.wipe(), 3);
+            Due.is(name, x.put(Due.number("~~")), 2);
+            BurdenTunes other = States.made(state);
+            Due.is(name, look(x, look), look(other, look));
+            Due.holds(name, States.toldWithoutPad(x).equals(States.toldWithoutPad(other)));
+            Due.is(name, x.count(9), 2);
+        }
+    }
+
+    private static int look(BurdenTunes x, int look) {
+        switch (look) {
+            case 0: return 0;
+            case 1: return x.undo();
+            case 2: return x.restore(0);
+            case 3: return x.restore(1);
+            default:
+                for (int undone = 0; undone < 5; undone++) {
+                    x.undo();
+                }
+                return x.undo();
+        }
     }
 
     private static void saves(int state) {

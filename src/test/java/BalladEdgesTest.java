@@ -33,6 +33,7 @@ public final class BalladEdgesTest {
         bestPhraseCountsLinesBeforeCosts();
         bestPhraseOfSeveralTheLowest();
         bestPhraseCountsALineAsOftenAsItIsThere();
+        bestPhraseLooksAtTheLastOf16Lines();
         Due.end();
     }
 
@@ -555,5 +556,16 @@ public final class BalladEdgesTest {
         Due.is("bestPhrase() of x, X, X", y.bestPhrase(), 1);
         sing(y, 0, 0, 1);
         Due.is("bestPhrase() of x, x, X", y.bestPhrase(), 0);
+    }
+
+    private static void bestPhraseLooksAtTheLastOf16Lines() {
+        for (int line = 0; line < 16; line++) {
+            BurdenTunes x = Due.with("x;x;x;x;x;x;x;x;x;x;x;x;x;x;x;x;|s;|w");
+            x.stress(line, 0, true);
+            x.sing(line);
+            Due.is("bestPhrase() of line " + line, x.bestPhrase(), 0);
+            x.stress(line, 0, false);
+            Due.is("bestPhrase() of line " + line + " without its stress", x.bestPhrase(), 1);
+        }
     }
 }

@@ -6,6 +6,7 @@ public final class HistoryEdgesTest {
     public static void main(String[] args) {
         undoWithNothingToUndo();
         eachChangeIsRecordedOnce();
+        whatWasRecordedBeforeIsKept();
         aSeventhChangeOfEachKind();
         aChangeThatChangesNothingIsRecorded();
         anErrorIsNotRecorded();
@@ -15,6 +16,7 @@ public final class HistoryEdgesTest {
         undoLeavesThePad();
         undoLeavesTheSlots();
         undoOfAllSettings();
+        restoreOfAllSettings();
         nothingSavedInASlot();
         anEmptyBookIsSomethingSaved();
         saveOverwrites();
@@ -24,6 +26,7 @@ public final class HistoryEdgesTest {
         aSlotKeepsWhatWasSaved();
         restoreIsAChange();
         aSlotKeepsAFullBook();
+        linesOfOtherLengthsComeBack();
         Due.end();
     }
 
@@ -42,13 +45,13 @@ public final class HistoryEdgesTest {
             case 0: case 1: case 2: case 3: return x.set(kind, 2);
             case 4: x.put(Due.number("Xx;|s.s")); return x.write();
             case 5: return x.dropLine(0);
-            case 6: return x.dropLine(2);
+            case 6: return x.dropLine(1);
             case 7: return x.dropPhrase(1);
-            case 8: return x.stress(2, 0, true);
-            case 9: return x.beat(1, 2, 2);
+            case 8: return x.stress(1, 0, true);
+            case 9: return x.beat(1, 1, 2);
             case 10: return x.sing(1);
             case 11: return x.play(0);
-            case 12: return x.verse(0, 1, 2);
+            case 12: return x.verse(0, 1, 1);
             case 13: return x.clear(true);
             case 14: return x.clear(false);
             case 15: return x.restore(1);
@@ -96,6 +99,25 @@ public final class HistoryEdgesTest {
             Due.holds("undo() of change " + kind + " brings all back", States.told(x).equals(States.told(other)));
             Due.is("undo() of what was before change " + kind, x.undo(), other.undo());
             Due.holds("what was before change " + kind + " is there", States.told(x).equals(States.told(other)));
+        }
+    }
+
+    /** Five of the six states before a change are there after it, and nothing of them has changed. */
+    private static void whatWasRecordedBeforeIsKept() {
+        for (int kind = 0; kind < KINDS; kind++) {
+            for (int undone = 0; undone <= 5; undone++) {
+                BurdenTunes x = States.made(States.SMALL);
+                BurdenTunes other = States.made(States.SMALL);
+                x.wipe();
+                other.wipe();
+                Due.holds("change " + kind + " is answered", change(x, kind) >= 0);
+                Due.is("undo() of change " + kind, x.undo(), 5);
+                for (int i = 1; i <= undone; i++) {
+                    Due.is("undo() of what was before change " + kind, x.undo(), 5 - i);
+                    Due.is("undo() without change " + kind, other.undo(), 6 - i);
+                }
+                Due.holds(undone + " before change " + kind + " is as it was", bookOf(x).equals(bookOf(other)));
+            }
         }
     }
 
@@ -269,6 +291,33 @@ public final class HistoryEdgesTest {
                 Due.is("setting " + other + " then", x.count(5 + other), other < setting ? 8 : firsts[other]);
             }
         }
+    }
+
+    private static void restoreOfAllSettings() {
+        BurdenTunes x = Due.with("xX;Xx;|w.s;|.w");
+        int[] values = {8, 0, 9, 20};
+        int[] others = {1, 9, 0, 0};
+        for (int setting = 0; setting < 4; setting++) {
+            x.set(setting, values[setting]);
+        }
+        x.save(1);
+        for (int setting = 0; setting < 4; setting++) {
+            x.set(setting, others[setting]);
+        }
+        x.beat(0, 0, 0);
+        x.stress(0, 0, true);
+        Due.is("restore(1)", x.restore(1), 2);
+        for (int setting = 0; setting < 4; setting++) {
+            Due.is("setting " + setting + " after restore", x.count(5 + setting), values[setting]);
+        }
+        Due.lines("after restore", x, "xX", "Xx");
+        Due.phrases("after restore", x, "w.s", ".w");
+        Due.is("undo() of restore", x.undo(), 5);
+        for (int setting = 0; setting < 4; setting++) {
+            Due.is("setting " + setting + " after undo", x.count(5 + setting), others[setting]);
+        }
+        Due.lines("after undo", x, "XX", "Xx");
+        Due.phrases("after undo", x, "..s", ".w");
     }
 
     /** "NOT_POSSIBLE if nothing was saved in it." */
@@ -462,5 +511,27 @@ public final class HistoryEdgesTest {
             int burden = place < 32 ? 15 : 0;
             Due.is("at(false, " + place + ")", x.at(false, place), place % 2 == 0 ? line : burden);
         }
+    }
+
+    /** By undo and by restore, after lines and phrases of other lengths have stood in their places. */
+    private static void linesOfOtherLengthsComeBack() {
+        String[] lines = {"x", "XX", "xXx", "XXXX", "x", "XX", "xXx", "XXXX", "x", "XX", "xXx", "XXXX", "x", "XX", "xXx", "XXXX"};
+        String[] phrases = {"s", "ww", "...", "swsw", "s", "ww", "...", "swsw"};
+        BurdenTunes x = Due.with(String.join(";", lines), "|" + String.join(";|", phrases));
+        x.save(0);
+        x.dropLine(0);
+        x.dropPhrase(0);
+        Due.write(x, "xxxxx;|wwwww");
+        Due.is("restore(0)", x.restore(0), 16);
+        Due.lines("after restore", x, lines);
+        Due.phrases("after restore", x, phrases);
+        x.dropLine(15);
+        x.dropPhrase(7);
+        Due.write(x, "xxxxxxx;|wwwwwww");
+        for (int left = 5; left >= 3; left--) {
+            Due.is("undo()", x.undo(), left);
+        }
+        Due.lines("after undo", x, lines);
+        Due.phrases("after undo", x, phrases);
     }
 }

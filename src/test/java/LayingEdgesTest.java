@@ -23,6 +23,7 @@ public final class LayingEdgesTest {
         freeBeatsAreWithoutRests();
         syllablesHurtWhateverHurtIs();
         liesOfTheFirstAndOfTheLastSyllable();
+        eachQuestionAfterEachOther();
         bestChangeOfOneSyllable();
         bestChangeOfSeveralTheFirst();
         bestChangeMayCostMore();
@@ -51,6 +52,8 @@ public final class LayingEdgesTest {
             Due.is("lies(0, 0, " + i / 2 + ", " + i % 2 + ") of " + text, x.lies(0, 0, i / 2, i % 2), places[i]);
         }
         Due.is("the syllable behind the last of " + text, x.lies(0, 0, places.length / 2, 0), NO_SUCH);
+        Due.is("the free beats of " + text + ", asked first", with(settings, text).fit(0, 0, 3), free);
+        Due.is("the hurting syllables of " + text + ", asked first", with(settings, text).fit(0, 0, 4), hurting);
     }
 
     /** In how many ways line 0 can be laid on phrase 0, and in how many with the least cost. */
@@ -58,6 +61,7 @@ public final class LayingEdgesTest {
         BurdenTunes x = with(settings, text);
         Due.is("the ways of " + text, x.fit(0, 0, 1), all);
         Due.is("the cheapest ways of " + text, x.fit(0, 0, 2), cheapest);
+        Due.is("the cheapest ways of " + text + ", asked first", with(settings, text).fit(0, 0, 2), cheapest);
     }
 
     private static void notLaid(int[] settings, String text) {
@@ -331,6 +335,22 @@ public final class LayingEdgesTest {
         Due.is("lies of syllable 1 of a line of 2", y.lies(1, 0, 1, 0), 1);
         Due.is("lies of syllable 1 that cannot be laid", y.lies(1, 1, 1, 0), NONE);
         Due.is("lies of syllable 2 of a line that cannot be laid", y.lies(1, 1, 2, 0), NO_SUCH);
+    }
+
+    /** What was asked before does not matter: longer and shorter lines on longer and shorter phrases, by turns. */
+    private static void eachQuestionAfterEachOther() {
+        String[] lines = {"X", "xXxXxX", "xx", "XxX"};
+        String[] phrases = {"sw", "swwsw.sws", "w", "ws.ws"};
+        BurdenTunes x = Due.with(String.join(";", lines) + ";|" + String.join(";|", phrases));
+        for (int number = 0; number < 16; number++) {
+            for (int other = 0; other < 16; other++) {
+                int what = (number + other) % 5;
+                BurdenTunes alone = Due.with(lines[other / 4] + ";|" + phrases[other % 4]);
+                x.fit(number / 4, number % 4, what);
+                String name = lines[other / 4] + " on " + phrases[other % 4] + " after " + lines[number / 4] + " on " + phrases[number % 4];
+                Due.is(name, x.fit(other / 4, other % 4, what), alone.fit(0, 0, what));
+            }
+        }
     }
 
     private static void change(int[] settings, String text, int syllable, int cost) {

@@ -1,11 +1,11 @@
 /**
  * "A call that returns an error changes nothing." Each method's errors in objects that are new, without lines,
- * without phrases, small, full and undone, with numbers just outside, far outside, and such that wrap around.
+ * without phrases, small, full, undone and without a tune, with numbers just outside, far outside, and such that wrap around.
  */
 public final class RefusedTest {
     private static final int NO_SUCH = BurdenTunes.NO_SUCH, BAD_VALUE = BurdenTunes.BAD_VALUE;
     private static final int BAD_TEXT = BurdenTunes.BAD_TEXT, TOO_MANY = BurdenTunes.TOO_MANY;
-    private static final int NOT_POSSIBLE = BurdenTunes.NOT_POSSIBLE;
+    private static final int NOT_POSSIBLE = BurdenTunes.NOT_POSSIBLE, NONE = BurdenTunes.NONE;
     private static final int MIN = Integer.MIN_VALUE, MAX = Integer.MAX_VALUE;
 
     public static void main(String[] args) {
@@ -227,7 +227,7 @@ public final class RefusedTest {
     }
 
     private static void notPossible() {
-        for (int state : new int[] {States.NEW, States.ONLY_LINES, States.UNDONE}) {
+        for (int state : new int[] {States.NEW, States.ONLY_LINES, States.NO_TUNE}) {
             for (int what = 0; what <= 3; what++) {
                 int asked = what;
                 Unchanged.refused(state, "whole(" + what, NOT_POSSIBLE, x -> x.whole(asked));
@@ -235,20 +235,19 @@ public final class RefusedTest {
         }
         Unchanged.refused(States.NEW, "undo(", NOT_POSSIBLE, x -> x.undo());
         Unchanged.refused(States.UNDONE, "undo(", NOT_POSSIBLE, x -> x.undo());
-        for (int state : new int[] {States.NEW, States.ONLY_LINES, States.ONLY_PHRASES, States.FULL}) {
-            Unchanged.refused(state, "restore(0", NOT_POSSIBLE, x -> x.restore(0));
-        }
-        for (int state : new int[] {States.NEW, States.ONLY_LINES, States.UNDONE}) {
-            Unchanged.refused(state, "restore(1", NOT_POSSIBLE, x -> x.restore(1));
-        }
+        Unchanged.refused(States.NEW, "restore(0", NOT_POSSIBLE, x -> x.restore(0));
+        Unchanged.refused(States.NEW, "restore(1", NOT_POSSIBLE, x -> x.restore(1));
+        Unchanged.refused(States.ONLY_PHRASES, "restore(0", NOT_POSSIBLE, x -> x.restore(0));
+        Unchanged.refused(States.ONLY_LINES, "restore(1", NOT_POSSIBLE, x -> x.restore(1));
     }
 
     /** That the tests above have tested what they are about. */
     private static void theStatesAreWhatTheirNamesSay() {
-        int[][] counts = {{0, 0, 0, 0, 0, 3, 1, 3, 7, 0, 0}, {2, 0, 1, 0, 0, 3, 1, 3, 7, 2, 2},
-            {0, 2, 0, 1, 0, 3, 1, 3, 7, 4, 2}, {2, 3, 2, 2, 0, 3, 1, 3, 8, 5, 6},
-            {16, 8, 40, 8, 6, 8, 1, 9, 7, 60, 6}, {0, 0, 0, 0, 0, 3, 1, 3, 7, 2, 0}};
-        int[] faults = {0, 2, BurdenTunes.NONE, BurdenTunes.NONE, BurdenTunes.NONE, 1};
+        int[][] counts = {{0, 0, 0, 0, 0, 3, 1, 3, 7, 0, 0}, {2, 0, 7, 0, 2, 5, 2, 4, 9, 2, 6},
+            {0, 2, 0, 7, 0, 5, 2, 4, 9, 4, 6}, {2, 3, 3, 3, 1, 5, 2, 4, 9, 5, 6},
+            {16, 8, 40, 8, 6, 8, 2, 8, 9, 60, 6}, {2, 2, 2, 2, 0, 5, 2, 4, 9, 2, 0},
+            {2, 2, 2, 0, 0, 5, 2, 4, 12, 2, 6}};
+        int[] faults = {0, 2, NONE, NONE, NONE, 1, NONE};
         for (int state = 0; state < States.COUNT; state++) {
             BurdenTunes x = States.made(state);
             for (int what = 0; what <= 10; what++) {

@@ -1,7 +1,12 @@
-/** Objects that stand at an edge of the document: a number always makes the same one, with few enough calls. */
+/**
+ * Objects that stand at an edge of the document: a number always makes the same one, with few enough calls.
+ * All but the new one have settings that are not the first ones, a first syllable without a stress, and a first beat
+ * that is not strong, a pad that was filled before the latest changes, and an oldest state that is not an empty one,
+ * so that it shows if any of this is lost.
+ */
 final class States {
-    static final int NEW = 0, ONLY_LINES = 1, ONLY_PHRASES = 2, SMALL = 3, FULL = 4, UNDONE = 5, COUNT = 6;
-    static final String[] NAMES = {"new", "only lines", "only phrases", "small", "full", "undone"};
+    static final int NEW = 0, ONLY_LINES = 1, ONLY_PHRASES = 2, SMALL = 3, FULL = 4, UNDONE = 5, NO_TUNE = 6, COUNT = 7;
+    static final String[] NAMES = {"new", "only lines", "only phrases", "small", "full", "undone", "no tune"};
     /** A pad that is full and has no fault. */
     static final String SIXTY = "xXxXxXxXxXxXxXxX;|swswswswswsw.wswswswswsw;XXXXXXXX;|w.s;xXx";
 
@@ -15,71 +20,117 @@ final class States {
             case SMALL: return small();
             case FULL: return full();
             case UNDONE: return undone();
+            case NO_TUNE: return noTune();
             default: return new BurdenTunes();
         }
     }
 
-    /** No phrase, a ballad without a tune, and a pad that ends too early. */
+    private static BurdenTunes with(String... texts) {
+        BurdenTunes x = Due.with(texts);
+        x.set(BurdenTunes.BREATH, 5);
+        x.set(BurdenTunes.DRAWN, 2);
+        x.set(BurdenTunes.LOST, 4);
+        x.set(BurdenTunes.HURT, 9);
+        return x;
+    }
+
+    /** No phrase, a ballad without a tune, nothing in slot 1, and a pad that ends too early. */
     private static BurdenTunes onlyLines() {
-        BurdenTunes x = Due.with("xX;X");
-        x.sing(1);
+        BurdenTunes x = with("xX;X");
         Due.put(x, "x;");
+        x.sing(1);
+        x.save(0);
+        for (int line = 0; line < 6; line++) {
+            x.sing(line % 2);
+        }
         return x;
     }
 
-    /** No line, a tune without a ballad, and a slot with a book without anything. */
+    /** No line, a tune without a ballad, and nothing in slot 0. */
     private static BurdenTunes onlyPhrases() {
-        BurdenTunes x = new BurdenTunes();
-        x.save(1);
-        Due.write(x, "|sw;|.");
-        x.play(0);
+        BurdenTunes x = with("|wsw;|.");
         Due.put(x, "|s;x");
+        x.play(1);
+        x.save(1);
+        for (int phrase = 0; phrase < 6; phrase++) {
+            x.play(phrase % 2);
+        }
         return x;
     }
 
-    /** Something of everything: eight changes, of which six can be undone, and two slots that differ. */
+    /** Something of everything; line 0 can be laid on phrase 0 alone. */
     private static BurdenTunes small() {
-        BurdenTunes x = Due.with("xXx;XX;|sws;|w.s;|.");
-        x.set(BurdenTunes.HURT, 8);
-        x.save(1);
+        BurdenTunes x = with("xXx;XX;|wsws;|w.s;|.");
+        Due.put(x, "X;|ws");
         x.play(1);
         x.sing(1);
+        x.save(1);
         x.sing(0);
         x.save(0);
         x.play(0);
-        x.stress(0, 0, true);
+        x.stress(1, 0, false);
         x.beat(1, 0, 2);
-        Due.put(x, "X;|ws");
+        x.sing(1);
+        x.play(2);
         return x;
     }
 
     /** The book, the ballad, the tune, the pad and the history are full. */
     private static BurdenTunes full() {
-        BurdenTunes x = Due.with("x;X;x;X;x;X;x;X;x;X;x;X;x;X;x;X;|s;|w;|.;|s;|w;|.;|s;|w");
+        BurdenTunes x = with("x;X;x;X;x;X;x;X;x;X;x;X;x;X;x;X;|w;|s;|.;|w;|s;|.;|w;|s");
+        Due.put(x, SIXTY);
         for (int phrase = 0; phrase < 8; phrase++) {
             x.play(7 - phrase);
         }
         x.save(1);
-        x.set(BurdenTunes.BREATH, 8);
-        x.set(BurdenTunes.LOST, 9);
         x.verse(0, 15, 3);
-        x.stress(15, 0, false);
+        x.save(0);
         x.verse(4, 7, 2);
-        x.beat(7, 0, 2);
-        Due.put(x, SIXTY);
+        x.stress(15, 0, false);
+        x.beat(7, 0, 1);
+        x.set(BurdenTunes.BREATH, 8);
+        x.set(BurdenTunes.LOST, 8);
+        x.stress(14, 0, true);
+        x.beat(6, 0, 0);
         return x;
     }
 
-    /** Nothing is left to undo, one slot is empty, and the pad has a fault. */
+    /** Nothing is left to undo, and the pad has a fault. */
     private static BurdenTunes undone() {
-        BurdenTunes x = Due.with("xX;|sw");
+        BurdenTunes x = with("xX;xx;|ws;|s.");
+        Due.put(x, "xs");
         x.sing(0);
+        x.play(1);
+        x.save(0);
+        x.sing(1);
+        x.save(1);
+        x.play(0);
+        x.stress(0, 1, false);
+        x.dropPhrase(1);
+        x.clear(false);
+        for (int hurt = 1; hurt <= 3; hurt++) {
+            x.set(BurdenTunes.HURT, hurt);
+        }
+        for (int undone = 0; undone < 6; undone++) {
+            x.undo();
+        }
+        return x;
+    }
+
+    /** All but a tune. */
+    private static BurdenTunes noTune() {
+        BurdenTunes x = with("xX;X;|w.s;|s");
+        Due.put(x, "xX");
+        x.sing(1);
         x.play(0);
         x.save(0);
-        x.undo();
-        x.undo();
-        x.undo();
-        Due.put(x, "xs");
+        x.sing(0);
+        x.save(1);
+        x.play(1);
+        x.set(BurdenTunes.HURT, 12);
+        x.stress(0, 1, false);
+        x.beat(1, 0, 1);
+        x.clear(true);
         return x;
     }
 
@@ -112,5 +163,10 @@ final class States {
             text.append(' ').append(x.at(isTune, place));
         }
         return text.toString();
+    }
+
+    /** The same without what is told of the pad. */
+    static String toldWithoutPad(BurdenTunes x) {
+        return told(x).replaceFirst(" \\d+( \\d+), fault -?\\d+", "$1");
     }
 }
