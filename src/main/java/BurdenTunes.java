@@ -879,7 +879,8 @@ public final class BurdenTunes {
             findBestWay();
             int hurting = 0;
             for (int syllable = 0; syllable < syllables; syllable++) {
-                if (hurts(syllable, firstBeats[syllable])) {
+                // Without a beat of its own there is no first one to look at.
+                if (heldBeats[syllable] > 0 && hurts(syllable, firstBeats[syllable])) {
                     hurting++;
                 }
             }
